@@ -622,8 +622,8 @@ public final class GongTide {
             int housesEnd = houses == NONE ? size : HOUSE_LETTERS * houses;
             for (int place = 0; place < size; place++) {
                 boolean isSound = place < housesEnd
-                        ? suitsHouses(place, codes[place])
-                        : suitsStrokes(place - housesEnd, codes[place]);
+                        ? suitsHouses(place, at(place))
+                        : suitsStrokes(place - housesEnd, at(place));
                 if (!isSound) {
                     return place;
                 }
@@ -842,9 +842,6 @@ public final class GongTide {
         int changes;
 
         void clear() {
-            for (int house = 0; house < MOST_HOUSES; house++) {
-                levels[house] = 0;
-            }
             strokes.clear();
             heard.clear();
             changes = 0;

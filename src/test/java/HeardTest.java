@@ -9,6 +9,7 @@ public final class HeardTest {
         ask();
         askOfNone();
         weeks();
+        drawsOfManySeeds();
         weeksByZeroLoud();
         weeksRefused();
         Checks.end();
@@ -112,6 +113,21 @@ public final class HeardTest {
         x.hear(0, 11, 1, 0);
         Checks.due("hours() still", x.hours(), 127);
         Checks.due("ask(2) at 1", x.ask(2), 0);
+        // Only the hours that are left count: 2, 3 and 4 here.
+        x.forget();
+        x.hear(0, 4, 9, 2);
+        Checks.due("ask(1) of three", x.ask(1), 0);
+        Checks.due("ask(2) of three", x.ask(2), 1);
+        // Nobody can tell: all ten hours are left, whomever one asks.
+        x.forget();
+        x.hear(0, 11, 1, 0);
+        Checks.due("ask(11) at 1", x.ask(11), 0);
+        // The deaf one is polite at all even hours, whenever it was struck.
+        GongTide deaf = Checks.colony("d0,h9;09");
+        deaf.hear(1, 11, 9, 0);
+        Checks.due("hours() by a high house", deaf.hours(), 1023);
+        Checks.due("ask(2) of a deaf one", deaf.ask(2), 1);
+        Checks.due("ask(8) of a deaf one", deaf.ask(8), 0);
     }
 
     private static void askOfNone() {
@@ -162,6 +178,15 @@ public final class HeardTest {
         GongTide three = Checks.colony("h0,h9;090908");
         three.felt(2, 9);
         Checks.due("weeks(1, 1, 1)", three.weeks(1, 1, 1), 6);
+    }
+
+    private static void drawsOfManySeeds() {
+        GongTide x = Checks.colony("h0,h0;99");
+        int[] lastTides = {0, 0, 0, 0, 0, 0, 0, 1, 3, 5};
+        for (int seed = 0; seed < 2000000000; seed += 9999991) {
+            int hour = seedBehind(seed, 1) / 65536 % 10;
+            Checks.due("weeks(1, " + seed + ", 1)", x.weeks(1, seed, 1), lastTides[hour]);
+        }
     }
 
     private static void weeksByZeroLoud() {

@@ -36,6 +36,7 @@ public final class HousesTest {
         aboutHouse(x, 3, new int[] {2, 0, 7, 7, 10}, "0 6 4 2 0 0 0 0 0 0 7 5");
         // Nothing but truth all day: the greatest manners are 0, first at hour 0.
         aboutHouse(x, 4, new int[] {0, 9, 12, 0, 0}, "0 0 0 0 0 0 0 0 0 0 0 0");
+        aboutHouse(Checks.colony("h0,h0;19"), 0, new int[] {0, 0, 7, 9, 1}, "0 9 7 5 3 1 0 0 0 0 0 0");
         GongTide twice = Checks.colony("h0,h1;0454");
         aboutHouse(twice, 0, new int[] {0, 0, 8, 4, 0}, "4 2 0 0 0 4 2 0 0 0 0 0");
         aboutHouse(twice, 1, new int[] {0, 1, 8, 3, 0}, "3 1 0 0 0 3 1 0 0 0 0 0");

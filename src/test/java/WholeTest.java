@@ -2,6 +2,7 @@
 public final class WholeTest {
     public static void main(String[] args) {
         imageAndRestore();
+        imageOfWhatIsHeard();
         theLatestImage();
         whatNoImageKeeps();
         imageAndRestoreRefused();
@@ -44,6 +45,22 @@ public final class WholeTest {
         Checks.refused("restore(), once more", x, before, x.restore(), 2);
         Checks.due("LOUD of 0, once more", x.stroke(0, 1), 6);
         Checks.due("hours(), once more", x.hours(), hours);
+    }
+
+    private static void imageOfWhatIsHeard() {
+        GongTide x = Checks.colony("h0,h9;09");
+        x.hear(0, 4, 9, 2);
+        x.hear(1, 3, 9, 1);
+        Checks.due("hours()", x.hours(), 12);
+        x.image();
+        x.forget();
+        x.hear(0, 5, 2, 1);
+        x.hear(0, 6, 3, 2);
+        x.hear(0, 6, 3, 2);
+        Checks.due("hours() meanwhile", x.hours(), 0);
+        x.restore();
+        Checks.due("count(6) behind restore()", x.count(6), 2);
+        Checks.due("hours() behind restore()", x.hours(), 12);
     }
 
     private static void theLatestImage() {
@@ -172,6 +189,10 @@ public final class WholeTest {
         x.raise(2, 0);
         Checks.write(x, "c1,");
         Checks.due("digest() of all", x.digest(), digestOf(x, "c1,"));
+        // Other dinners, bests and hours to ask for would be told otherwise here.
+        GongTide y = Checks.colony("c6,l3,o3;0739");
+        y.hear(0, 11, 9, 0);
+        Checks.due("digest() of another", y.digest(), digestOf(y, ""));
         x.hear(1, 11, 3, 2);
         Checks.due("digest() with no hour", x.digest(), digestOf(x, "c1,"));
         Checks.due("digest() again", x.digest(), x.digest());

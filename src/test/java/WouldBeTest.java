@@ -94,6 +94,8 @@ public final class WouldBeTest {
         full.felt(5, 0);
         bestIs(full, 9, 4, 10);
         Checks.due("six strokes still", full.count(1), 6);
+        // Only a stroke at 10 would help, and there is none then.
+        bestIs(Checks.colony("h0,h0;0959"), 1, 0, 20);
         GongTide low = Checks.colony("h9,h9;01");
         bestIs(low, 1, 0, 0);
     }
