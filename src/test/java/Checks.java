@@ -1,63 +1,43 @@
 /** What the tests share: they print each answer that is not due, and end with exit code 1 then. */
 final class Checks {
+    private static String place = "";
     private static int wrong = 0;
     private static int made = 0;
+    private static int madeBefore = 0;
 
     private Checks() {
+    }
+
+    /** What is looked at from here on belongs to this case. */
+    static void begin(String name) {
+        place = name + ": ";
+        madeBefore = made;
+    }
+
+    /** A case that looks at nothing would hold whatever the program does. */
+    static void holdsSome() {
+        if (made == madeBefore) {
+            due("the case", "looked at nothing", "at least one answer");
+        }
     }
 
     static void due(String call, long got, long want) {
         made++;
         if (got != want) {
-            wrong++;
-            System.out.println(call + " answered " + got + ", due is " + want);
+            tell(call, String.valueOf(got), String.valueOf(want));
         }
     }
 
     static void due(String call, String got, String want) {
         made++;
         if (!got.equals(want)) {
-            wrong++;
-            System.out.println(call + " answered " + got + ", due is " + want);
+            tell(call, got, want);
         }
     }
 
-    /** A call that was refused: its answer, and that nothing changed since `before`. */
-    static void refused(String call, GongTide x, long before, long got, long want) {
-        due(call, got, want);
-        due("digest() behind " + call, x.digest(), before);
-    }
-
-    static void write(GongTide x, String text) {
-        for (int i = 0; i < text.length(); i++) {
-            x.letter(text.charAt(i));
-        }
-    }
-
-    static GongTide colony(String text) {
-        GongTide x = new GongTide();
-        write(x, text);
-        int houses = text.substring(0, text.indexOf(';')).split(",").length;
-        due("colony() of " + text, x.colony(), houses);
-        return x;
-    }
-
-    /** The manners of a house, hour by hour. */
-    static String manners(GongTide x, int house) {
-        StringBuilder row = new StringBuilder();
-        for (int what = 10; what <= 21; what++) {
-            row.append(what == 10 ? "" : " ").append(x.about(house, what));
-        }
-        return row.toString();
-    }
-
-    /** The tide, hour by hour. */
-    static String tides(GongTide x) {
-        StringBuilder row = new StringBuilder();
-        for (int hour = 0; hour <= 11; hour++) {
-            row.append(hour == 0 ? "" : " ").append(x.tide(hour));
-        }
-        return row.toString();
+    private static void tell(String call, String got, String want) {
+        wrong++;
+        System.out.println(place + call + " answered " + got + ", due is " + want);
     }
 
     static void end() {

@@ -1,211 +1,276 @@
-/** Promises 15 to 19: hear, forget, hours, ask, weeks. */
+/** Promises 15 to 18: hear, forget, hours, ask. */
 public final class HeardTest {
-    public static void main(String[] args) {
-        hear();
-        hearRefused();
-        forget();
-        hours();
-        hoursOfAllElseAsItIs();
-        ask();
-        askOfNone();
-        weeks();
-        drawsOfManySeeds();
-        weeksByZeroLoud();
-        weeksRefused();
-        Checks.end();
+    public static void main(String[] args) throws Exception {
+        Cases.run(HeardTest.class);
     }
 
-    private static void hear() {
-        GongTide x = Checks.colony("h0,h9;09");
-        int[][] edges = {{0, 0, 1, 0}, {1, 11, 9, 2}, {0, 0, 1, 0}, {0, 11, 1, 1}, {1, 0, 9, 0}, {1, 5, 5, 1}};
-        for (int i = 0; i < edges.length; i++) {
-            int[] a = edges[i];
-            Checks.due("hear, " + i, x.hear(a[0], a[1], a[2], a[3]), i + 1);
-            Checks.due("count(6), " + i, x.count(6), i + 1);
+    private static final String FIRST_TOLD = "Refusals, of several the first as told by each call";
+
+    // ---- promise 15
+
+    private static final String HEAR = "It is HEARD: how much is.";
+    private static final String HEAR_REFUSED = "UNKNOWN: house; OUTSIDE: hour (0 to 11), loud (1 to 9), how (0 to 2);"
+            + " FULL.";
+    private static final String HEARD = "HEARD (6 at most): that in a HOUSE at an HOUR TRUTH was said (0), one was"
+            + " POLITE (1), or LOVED all (2), one more STROKE, so LOUD, having been struck at an HOUR that is not known.";
+
+    @Says({HEAR, HEARD, HEAR_REFUSED})
+    static void p15_hear_leastAndGreatestOfEach() {
+        Talk.of("h0,h0,h0,h0,h0;01").due("hear 0 0 1 0", 1).due("hear 4 11 9 2", 2).due("count 6", 2)
+                .due("count 5", 0);
+    }
+
+    @Says(HEAR)
+    static void p15_hear_theSameTwiceAndWhatCannotBe() {
+        Talk.of("h0,h9;09").due("hear 0 6 3 1", 1).due("hear 0 6 3 1", 2).due("hours", 96).due("hear 0 6 3 2", 3)
+                .due("hours", 0).due("count 6", 3);
+    }
+
+    private static Talk six() {
+        return Talk.of("h0,h9;09").due("hear 0 0 1 2", 1).due("hear 1 11 9 0", 2).due("hear 0 0 1 2", 3)
+                .due("hear 0 1 1 2", 4).due("hear 1 0 2 0", 5);
+    }
+
+    @Says({HEAR_REFUSED, HEARD, "FULL; they change nothing."})
+    static void p15_hear_theSixthFitsTheSeventhIsFull() {
+        six().due("hear 0 6 3 1", 6).due("hours", 96).full("hear 0 6 3 0", "hear 0 0 1 0").due("count 6", 6)
+                .due("hours", 96);
+    }
+
+    @Says(HEAR_REFUSED)
+    static void p15_hear_houseTooSmallOrTooLarge() {
+        Talk.ofAll().unknown("hear -1 0 1 0", "hear 5 0 1 0", "hear 2147483647 0 1 0", "hear -2147483648 0 1 0");
+        Talk.of("h0,h9;09").unknown("hear 2 0 1 0", "hear 4 0 1 0");
+    }
+
+    @Says(HEAR_REFUSED)
+    static void p15_hear_noColony() {
+        Talk.none().unknown("hear 0 0 1 0", "hear 4 11 9 2");
+    }
+
+    @Says(HEAR_REFUSED)
+    static void p15_hear_hourTooSmallOrTooLarge() {
+        Talk.ofAll().outside("hear 0 -1 1 0", "hear 0 12 1 0", "hear 0 2147483647 1 0", "hear 0 -2147483648 1 0");
+    }
+
+    @Says(HEAR_REFUSED)
+    static void p15_hear_loudTooSmallOrTooLarge() {
+        Talk.ofAll().outside("hear 0 0 0 0", "hear 0 0 10 0", "hear 0 0 -1 0", "hear 0 0 2147483647 0",
+                "hear 0 0 -2147483648 0");
+    }
+
+    @Says(HEAR_REFUSED)
+    static void p15_hear_howTooSmallOrTooLarge() {
+        Talk.ofAll().outside("hear 0 0 1 -1", "hear 0 0 1 3", "hear 0 0 1 2147483647", "hear 0 0 1 -2147483648");
+    }
+
+    @Says({HEAR_REFUSED, FIRST_TOLD})
+    static void p15_hear_unknownIsToldBeforeOutside() {
+        Talk.ofAll().unknown("hear -1 -1 1 0", "hear 5 12 1 0", "hear 5 0 0 0", "hear 5 0 10 0", "hear 5 0 1 3");
+        Talk.none().unknown("hear 0 12 1 0");
+    }
+
+    @Says({HEAR_REFUSED, FIRST_TOLD})
+    static void p15_hear_unknownAndOutsideAreToldBeforeFull() {
+        six().due("hear 0 6 3 1", 6).unknown("hear 2 0 1 0", "hear -1 0 1 0", "hear 2 12 1 0")
+                .outside("hear 0 12 1 0", "hear 0 0 0 0", "hear 0 0 10 0", "hear 0 0 1 3", "hear 0 0 1 -1");
+    }
+
+    // ---- promise 16
+
+    private static final String FORGET = "Nothing is HEARD any more: how much was.";
+
+    @Says(FORGET)
+    static void p16_forget_nothingHeard() {
+        Talk.none().asks("forget", 0);
+        Talk.of("h0,h9;09").asks("forget", 0).asks("forget", 0);
+    }
+
+    @Says(FORGET)
+    static void p16_forget_allSix() {
+        six().due("hear 0 6 3 1", 6).due("forget", 6).asks("forget", 0).like(Talk.of("h0,h9;09"))
+                .due("hours", 1023).due("ask 2", GongTide.NONE).due("count 6", 0);
+    }
+
+    @Says(FORGET)
+    static void p16_forget_thereIsRoomAgain() {
+        six().then("hear 0 6 3 1").full("hear 0 6 3 0").then("forget").due("hear 0 6 3 0", 1).due("hours", 927);
+    }
+
+    @Says(FORGET)
+    static void p16_forget_isNoChange() {
+        Talk.of("h0,h9;09").then("raise 0 0").then("hear 0 6 3 1").due("forget", 1).due("count 5", 1);
+    }
+
+    // ---- promise 17
+
+    private static final String HOURS = "HOURS (0 to 9) at which it can have been, all else as it is, so that all that"
+            + " is HEARD is so: as bits.";
+    private static final String HOURS_REFUSED = "STATE: no COLONY.";
+    private static final String HOW = "At MANNERS 0 TRUTH is said; from 1 to 4 one is POLITE; at 5, or more, one LOVES"
+            + " all.";
+
+    @Says({"HOURS, as bits.", HOURS})
+    static void p17_hours_nothingHeardAllTenCanBe() {
+        Talk.of("h0,h9;09").asks("hours", 1023);
+    }
+
+    @Says(HOURS)
+    static void p17_hours_noneCanBe() {
+        Talk.of("h0,h9;09").then("hear 1 0 1 2").asks("hours", 0);
+    }
+
+    @Says(HOURS)
+    static void p17_hours_theFirstAloneAndTheLastAlone() {
+        Talk.of("h0,h9;01").then("hear 0 0 4 2").asks("hours", 1);
+        Talk.of("h0,h9;01").then("hear 0 11 5 1").asks("hours", 512);
+    }
+
+    @Says({HOURS, HOW, HEARD})
+    static void p17_hours_mannersOf0And1And4And5() {
+        // At 9 it left 5, 3 and 1 of a stroke of 5 loud; 4, 2 and 0 of one of 4.
+        Talk.of("h0,h9;01").then("hear 0 9 5 0").due("hours", 127).then("forget").then("hear 0 9 5 1").due("hours", 384)
+                .then("forget").then("hear 0 9 5 2").due("hours", 512).then("forget").then("hear 0 9 4 0")
+                .due("hours", 255).then("forget").then("hear 0 9 4 1").due("hours", 768).then("forget")
+                .then("hear 0 9 4 2").due("hours", 0);
+    }
+
+    @Says(HOURS)
+    static void p17_hours_eachAsLoudAsItWasHeard() {
+        Talk.of("h0,h9;01").then("hear 0 9 5 1").due("hours", 384).then("hear 0 9 4 0").due("hours", 128);
+        Talk.of("h0,h9;01").then("hear 0 9 4 0").then("hear 0 9 5 1").due("hours", 128);
+    }
+
+    @Says(HOURS)
+    static void p17_hours_allThatIsHeardOfSix() {
+        Talk talk = Talk.of("h0,h9;01").then("hear 0 9 5 0");
+        for (int heard = 2; heard <= 5; heard++) {
+            talk.then("hear 1 0 1 0");
         }
-        Checks.due("count(5)", x.count(5), 0);
-        long before = x.digest();
-        Checks.refused("the seventh", x, before, x.hear(0, 0, 1, 0), GongTide.FULL);
-        Checks.refused("the seventh, outside", x, before, x.hear(0, 12, 1, 0), GongTide.OUTSIDE);
-        Checks.refused("the seventh, unknown", x, before, x.hear(2, 0, 1, 0), GongTide.UNKNOWN);
+        talk.due("hours", 127).then("hear 0 6 5 1").due("hours", 48);
     }
 
-    private static void hearRefused() {
-        GongTide x = Checks.colony("h0,h9;09");
-        int[][] unknown = {{-1, 0, 1, 0}, {2, 0, 1, 0}, {5, 12, 0, 3}, {Integer.MIN_VALUE, 0, 1, 0}};
-        for (int[] a : unknown) {
-            Checks.refused("hear(" + a[0] + ", ..)", x, x.digest(), x.hear(a[0], a[1], a[2], a[3]), GongTide.UNKNOWN);
-        }
-        int[][] outside = {{0, -1, 1, 0}, {0, 12, 1, 0}, {0, 0, 0, 0}, {0, 0, 10, 0}, {0, 0, 1, -1}, {1, 0, 1, 3},
-            {1, Integer.MAX_VALUE, 1, 0}, {1, 0, Integer.MIN_VALUE, 0}, {1, 0, 1, Integer.MAX_VALUE}};
-        for (int[] a : outside) {
-            Checks.refused("hear(" + a[0] + ", " + a[1] + ", " + a[2] + ", " + a[3] + ")", x, x.digest(),
-                    x.hear(a[0], a[1], a[2], a[3]), GongTide.OUTSIDE);
-        }
-        Checks.due("count(6)", x.count(6), 0);
-        Checks.due("hours()", x.hours(), 1023);
-        Checks.due("hear of none", new GongTide().hear(0, 0, 1, 0), GongTide.UNKNOWN);
+    @Says(HOURS)
+    static void p17_hours_byKindsThatGoByTheHourBefore() {
+        // At hour 0 nothing comes to a creek, nor to old people, whenever it was struck.
+        Talk.of("c0,o0;01").then("hear 0 0 9 0").then("hear 1 0 9 0").due("hours", 1023).then("hear 0 1 9 2")
+                .due("hours", 1);
+        Talk.of("d0,d0;01").then("hear 0 0 9 1").then("hear 1 11 9 0").due("hours", 1023).then("hear 0 1 9 1")
+                .due("hours", 0);
     }
 
-    private static void forget() {
-        GongTide x = Checks.colony("h0,h9;09");
-        Checks.due("forget() of nothing", x.forget(), 0);
-        x.hear(0, 6, 3, 1);
-        x.hear(0, 6, 3, 2);
-        Checks.due("hours()", x.hours(), 0);
-        Checks.due("forget()", x.forget(), 2);
-        Checks.due("forget() again", x.forget(), 0);
-        Checks.due("hours() then", x.hours(), 1023);
-        Checks.due("ask(2) then", x.ask(2), GongTide.NONE);
-        Checks.due("count(5)", x.count(5), 0);
-        Checks.due("hear then", x.hear(0, 6, 3, 1), 1);
-        Checks.due("forget() of none", new GongTide().forget(), 0);
+    @Says(HOURS)
+    static void p17_hours_allElseAsItIsNow() {
+        Talk.of("h0,h9;09").then("hear 1 3 9 1").due("hours", 12).then("raise 1 0").due("hours", 1008)
+                .then("felt 0 0").due("hours", 1).then("strike 3 1").due("hours", 1009);
     }
 
-    private static void hours() {
-        Checks.due("hours() of none", new GongTide().hours(), GongTide.STATE);
-        GongTide x = Checks.colony("h0,h9;09");
-        Checks.due("hours(), nothing heard", x.hours(), 1023);
-        int[] wants = {927, 96, 0};
-        for (int how = 0; how <= 2; how++) {
-            x.hear(0, 6, 3, how);
-            Checks.due("hours(), heard " + how, x.hours(), wants[how]);
-            x.forget();
-        }
-        x.hear(0, 4, 9, 2);
-        Checks.due("hours(), one", x.hours(), 28);
-        x.hear(1, 3, 9, 1);
-        Checks.due("hours(), two", x.hours(), 12);
-        long before = x.digest();
-        Checks.refused("hours() again", x, before, x.hours(), 12);
-        // Each is heard at a loudness of its own.
-        x.hear(0, 5, 2, 1);
-        Checks.due("hours(), three", x.hours(), 0);
+    @Says(HOURS)
+    static void p17_hours_behindSixStrokes() {
+        Talk.of("h0,h9;09010101").then("strike 0 1").then("strike 0 1").then("hear 0 11 9 0").due("hours", 127);
     }
 
-    private static void hoursOfAllElseAsItIs() {
-        GongTide x = Checks.colony("h0,h9;09");
-        x.hear(1, 3, 9, 1);
-        Checks.due("hours()", x.hours(), 12);
-        x.raise(1, 0);
-        Checks.due("hours() behind raise", x.hours(), 1008);
-        x.felt(0, 0);
-        Checks.due("hours() behind felt", x.hours(), 1);
-        x.strike(3, 1);
-        Checks.due("hours() behind strike", x.hours(), 1009);
-        GongTide six = Checks.colony("h0,h9;09010101");
-        six.strike(0, 1);
-        six.strike(0, 1);
-        six.hear(0, 11, 9, 0);
-        Checks.due("hours() with six strokes", six.hours(), 127);
+    @Says(HOURS_REFUSED)
+    static void p17_hours_noColony() {
+        Talk.none().state("hours");
     }
 
-    private static void ask() {
-        GongTide x = Checks.colony("h0,h9;09");
-        x.hear(0, 11, 9, 0);
-        Checks.due("hours()", x.hours(), 127);
-        int[][] wants = {{0, 1}, {2, 1}, {4, 0}, {9, 0}, {10, 0}, {11, 0}};
-        long before = x.digest();
-        for (int[] w : wants) {
-            Checks.refused("ask(" + w[0] + ")", x, before, x.ask(w[0]), w[1]);
-        }
-        // The one heard of last tells how loud it is.
-        x.hear(0, 11, 1, 0);
-        Checks.due("hours() still", x.hours(), 127);
-        Checks.due("ask(2) at 1", x.ask(2), 0);
-        // Only the hours that are left count: 2, 3 and 4 here.
-        x.forget();
-        x.hear(0, 4, 9, 2);
-        Checks.due("ask(1) of three", x.ask(1), 0);
-        Checks.due("ask(2) of three", x.ask(2), 1);
-        // Nobody can tell: all ten hours are left, whomever one asks.
-        x.forget();
-        x.hear(0, 11, 1, 0);
-        Checks.due("ask(11) at 1", x.ask(11), 0);
-        // The deaf one is polite at all even hours, whenever it was struck.
-        GongTide deaf = Checks.colony("d0,h9;09");
-        deaf.hear(1, 11, 9, 0);
-        Checks.due("hours() by a high house", deaf.hours(), 1023);
-        Checks.due("ask(2) of a deaf one", deaf.ask(2), 1);
-        Checks.due("ask(8) of a deaf one", deaf.ask(8), 0);
+    // ---- promise 18
+
+    private static final String ASK = "ASK for an HOUR: in which HOUSE to ask how it was there then (0, 1, 2), that"
+            + " STROKE being as LOUD as the one HEARD of last, so that fewest of these are left at worst: of like ones"
+            + " the least; none, if there are none (or nothing is HEARD).";
+    private static final String ASK_REFUSED = "OUTSIDE: hour (0 to 11); STATE: no COLONY.";
+
+    @Says({"ASK; NONE.", ASK})
+    static void p18_ask_nothingHeard() {
+        Talk.of("h0,h9;09").asks("ask 0", GongTide.NONE).asks("ask 11", GongTide.NONE);
     }
 
-    private static void askOfNone() {
-        GongTide none = new GongTide();
-        GongTide x = Checks.colony("h0,h9;09");
-        for (int hour : new int[] {-1, 12, Integer.MIN_VALUE, Integer.MAX_VALUE}) {
-            Checks.refused("ask(" + hour + ")", x, x.digest(), x.ask(hour), GongTide.OUTSIDE);
-            Checks.due("ask(" + hour + ") of none", none.ask(hour), GongTide.OUTSIDE);
-        }
-        Checks.due("ask(11) of none", none.ask(11), GongTide.STATE);
-        Checks.due("ask(0), nothing heard", x.ask(0), GongTide.NONE);
-        x.hear(0, 6, 3, 2);
-        Checks.due("ask(0), no hour left", x.ask(0), GongTide.NONE);
+    @Says({"ASK; NONE.", ASK})
+    static void p18_ask_noHourIsLeft() {
+        Talk.of("h0,h9;09").then("hear 1 0 1 2").due("hours", 0).asks("ask 0", GongTide.NONE)
+                .asks("ask 11", GongTide.NONE);
     }
 
-    private static void weeksAre(GongTide x, int days, int seed, int truths, int high, int then) {
-        String call = "weeks(" + days + ", " + seed + ", ";
-        long before = x.digest();
-        Checks.refused(call + "0)", x, before, x.weeks(days, seed, 0), truths);
-        Checks.refused(call + "1)", x, before, x.weeks(days, seed, 1), high);
-        Checks.refused(call + "2)", x, before, x.weeks(days, seed, 2), then);
+    @Says(ASK)
+    static void p18_ask_oneHourIsLeft() {
+        Talk.of("h0,h9;01").then("hear 0 11 5 1").due("hours", 512).asks("ask 9", 0);
     }
 
-    private static int seedBehind(int seed, int draws) {
-        java.math.BigInteger next = java.math.BigInteger.valueOf(seed);
-        for (int i = 0; i < draws; i++) {
-            next = next.multiply(java.math.BigInteger.valueOf(1103515245)).add(java.math.BigInteger.valueOf(12345))
-                    .mod(java.math.BigInteger.TWO.pow(31));
-        }
-        return next.intValueExact();
+    @Says(ASK)
+    static void p18_ask_theFirstAndTheLastHour() {
+        Talk.of("h0,h9;09").then("hear 0 11 9 0").due("hours", 127).asks("ask 0", 1).asks("ask 11", 0);
     }
 
-    private static void weeks() {
-        // Seed 1 draws 8, 8, 3, 5, 1, 7, 0, 9, 2, 6.
-        GongTide x = Checks.colony("h0,h9;09");
-        weeksAre(x, 1, 1, 20, 3, 1103527590);
-        weeksAre(x, 2, 1, 40, 6, seedBehind(1, 2));
-        weeksAre(x, 3, 1, 59, 6, seedBehind(1, 3));
-        weeksAre(x, 10, 1, 20 + 20 + 19 + 19 + 19 + 19 + 19 + 21 + 19 + 19, 3 + 3 + 1 + 5, seedBehind(1, 10));
-        Checks.due("weeks(30, MAX, 2)", x.weeks(30, Integer.MAX_VALUE, 2), seedBehind(Integer.MAX_VALUE, 30));
-        Checks.due("weeks(1, 0, 2)", x.weeks(1, 0, 2), 12345);
-        // Who has only the calendar says truth at six hours, whatever is drawn.
-        Checks.due("weeks of the deaf", Checks.colony("d0,d9;19").weeks(30, 7, 0), 360);
-        // Two strokes, 8 and 8: together 18 at 8, then 14, 10, 6.
-        GongTide both = Checks.colony("h0,h9;0929");
-        weeksAre(both, 1, 1, 8 + 9, 6, seedBehind(1, 2));
-        // Three strokes of one hour are cut at 20 in the hour itself.
-        GongTide three = Checks.colony("h0,h9;090908");
-        three.felt(2, 9);
-        Checks.due("weeks(1, 1, 1)", three.weeks(1, 1, 1), 6);
+    @Says(ASK)
+    static void p18_ask_theLastHouse() {
+        Talk.of("d0,d0,d0,d0,h0;01").then("hear 4 11 9 0").due("hours", 127).asks("ask 4", 4);
     }
 
-    private static void drawsOfManySeeds() {
-        GongTide x = Checks.colony("h0,h0;99");
-        int[] lastTides = {0, 0, 0, 0, 0, 0, 0, 1, 3, 5};
-        for (int seed = 0; seed < 2000000000; seed += 9999991) {
-            int hour = seedBehind(seed, 1) / 65536 % 10;
-            Checks.due("weeks(1, " + seed + ", 1)", x.weeks(1, seed, 1), lastTides[hour]);
-        }
+    @Says(ASK)
+    static void p18_ask_fewestAtWorstNotAtBest() {
+        // House 0 can leave 5, 1 or 2 of the eight, house 1 none, 4 or 4.
+        Talk.of("o0,h5;39").then("hear 0 11 7 0").due("hours", 255).asks("ask 3", 1);
+        // House 0 can leave 8, 1 or 1 of the ten, house 1 can leave 7, none or 3.
+        Talk.of("c7,h0;59").then("hear 0 6 9 2").due("hours", 1023).asks("ask 2", 1);
     }
 
-    private static void weeksByZeroLoud() {
-        GongTide x = Checks.colony("h0,h9;0909");
-        x.felt(0, 0);
-        weeksAre(x, 1, 1, 20, 3, seedBehind(1, 2));
-        weeksAre(x, 2, 1, 39, 3, seedBehind(1, 4));
+    @Says({ASK, HOW})
+    static void p18_ask_eachAnswerLeavesItsOwn() {
+        // 9, 1 or none against none, 7 or 3: one who is polite doesn't love all.
+        Talk.of("o6,c4;66").then("hear 0 11 7 0").due("hours", 1023).asks("ask 8", 1);
+        // 6, 1 or none against 5, 2 or none: one who is polite says no truth.
+        Talk.of("c5,c0;47").then("hear 0 8 6 0").due("hours", 799).asks("ask 11", 1);
     }
 
-    private static void weeksRefused() {
-        GongTide x = Checks.colony("h0,h9;09");
-        GongTide none = new GongTide();
-        int[][] outside = {{0, 1, 0}, {31, 1, 0}, {-1, 1, 0}, {1, -1, 0}, {1, 1, -1}, {1, 1, 3},
-            {Integer.MAX_VALUE, 1, 0}, {1, Integer.MIN_VALUE, 0}, {1, 1, Integer.MIN_VALUE}};
-        for (int[] a : outside) {
-            String call = "weeks(" + a[0] + ", " + a[1] + ", " + a[2] + ")";
-            Checks.refused(call, x, x.digest(), x.weeks(a[0], a[1], a[2]), GongTide.OUTSIDE);
-            Checks.refused(call + " of none", none, none.digest(), none.weeks(a[0], a[1], a[2]), GongTide.OUTSIDE);
-        }
-        Checks.refused("weeks(1, 1, 2) of none", none, none.digest(), none.weeks(1, 1, 2), GongTide.STATE);
+    @Says(ASK)
+    static void p18_ask_atWorstByEachOfTheAnswers() {
+        // None, 5 or 2 against 4, 2 or 1: the polite are most in house 0.
+        Talk.of("l3,h1;37").then("hear 1 2 6 0").asks("ask 6", 1);
+        // None, none or 7 against 6, none or 1: those who love are most in house 0.
+        Talk.of("c0,c8;49").then("hear 1 6 7 1").asks("ask 7", 1);
+        // None, none or 8 against 8, none or none: the truths are as many in house 1.
+        Talk.of("h3,o8;88").then("hear 0 4 7 0").asks("ask 8", 0);
+    }
+
+    @Says(ASK)
+    static void p18_ask_ofLikeOnesTheLeast() {
+        Talk.of("h0,h0,h0;01").then("hear 0 11 9 0").asks("ask 4", 0);
+        Talk.of("d0,h0,h0;01").then("hear 1 11 9 0").asks("ask 4", 1);
+        // Nobody can tell: all are left, whomever one asks.
+        Talk.of("h0,h9;09").then("hear 0 11 1 0").due("ask 11", 0);
+    }
+
+    @Says(ASK)
+    static void p18_ask_asLoudAsTheOneHeardOfLast() {
+        Talk.of("h0,h9;09").then("hear 0 11 9 0").due("ask 2", 1).then("hear 0 11 1 0").due("hours", 127)
+                .due("ask 2", 0).then("hear 0 11 9 0").due("ask 2", 1);
+    }
+
+    @Says(ASK)
+    static void p18_ask_onlyOfTheHoursThatAreLeft() {
+        Talk.of("h0,h9;09").then("hear 0 4 9 2").due("hours", 28).due("ask 1", 0).due("ask 2", 1);
+    }
+
+    @Says(ASK)
+    static void p18_ask_houseThatTellsTheSameAtAllHours() {
+        Talk.of("d0,h9;09").then("hear 1 11 9 0").due("hours", 1023).due("ask 2", 1).due("ask 8", 0);
+    }
+
+    @Says(ASK_REFUSED)
+    static void p18_ask_hourTooSmallOrTooLarge() {
+        Talk.ofAll().outside("ask -1", "ask 12", "ask 2147483647", "ask -2147483648");
+        Talk.of("h0,h9;09").outside("ask -1", "ask 12");
+    }
+
+    @Says(ASK_REFUSED)
+    static void p18_ask_noColony() {
+        Talk.none().state("ask 0", "ask 11");
+    }
+
+    @Says({ASK_REFUSED, FIRST_TOLD})
+    static void p18_ask_outsideIsToldBeforeState() {
+        Talk.none().outside("ask -1", "ask 12");
     }
 }

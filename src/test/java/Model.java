@@ -21,7 +21,6 @@ final class Model {
     private int readings;
     private Kept kept;
 
-
     long call(String name, int[] a) {
         switch (name) {
             case "letter": return letter(a[0]);

@@ -97,35 +97,7 @@ public final class ModelTest {
         if (calls <= CALLS) {
             String call = "run " + run + ", call " + calls + ", " + name + java.util.Arrays.toString(a);
             long want = model.call(name, a);
-            Checks.due(call, answer(name, a), want);
-        }
-    }
-
-    private long answer(String name, int[] a) {
-        switch (name) {
-            case "letter": return tested.letter(a[0]);
-            case "blank": return tested.blank();
-            case "fault": return tested.fault();
-            case "colony": return tested.colony();
-            case "about": return tested.about(a[0], a[1]);
-            case "as": return tested.as(a[0], a[1]);
-            case "raise": return tested.raise(a[0], a[1]);
-            case "tide": return tested.tide(a[0]);
-            case "strike": return tested.strike(a[0], a[1]);
-            case "felt": return tested.felt(a[0], a[1]);
-            case "stroke": return tested.stroke(a[0], a[1]);
-            case "dinner": return tested.dinner(a[0], a[1]);
-            case "best": return tested.best(a[0], a[1]);
-            case "hear": return tested.hear(a[0], a[1], a[2], a[3]);
-            case "forget": return tested.forget();
-            case "hours": return tested.hours();
-            case "ask": return tested.ask(a[0]);
-            case "weeks": return tested.weeks(a[0], a[1], a[2]);
-            case "image": return tested.image();
-            case "restore": return tested.restore();
-            case "count": return tested.count(a[0]);
-            case "digest": return tested.digest();
-            default: throw new IllegalArgumentException(name);
+            Checks.due(call, Calls.answer(tested, name, a), want);
         }
     }
 }
