@@ -12,7 +12,8 @@ public final class HeardTest {
     private static final String HEAR_REFUSED = "UNKNOWN: house; OUTSIDE: hour (0 to 11), loud (1 to 9), how (0 to 2);"
             + " FULL.";
     private static final String HEARD = "HEARD (6 at most): that in a HOUSE at an HOUR TRUTH was said (0), one was"
-            + " POLITE (1), or LOVED all (2), one more STROKE, so LOUD, having been struck at an HOUR that is not known.";
+            + " POLITE (1), or LOVED all (2), one more STROKE, so LOUD, having been struck at an HOUR that is not"
+            + " known.";
 
     @Says({HEAR, HEARD, HEAR_REFUSED})
     static void p15_hear_leastAndGreatestOfEach() {

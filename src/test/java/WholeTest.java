@@ -194,8 +194,8 @@ public final class WholeTest {
     private static final String DIGEST = "h is 1091, then for each of these numbers, in order, 31 times h, and it (as"
             + " longs, wrapping): of each HOUSE what about() tells for 0 to 4 and 10 to 21; of each STROKE what"
             + " stroke() tells for 0 to 2; with a COLONY the TIDE at each HOUR, DINNER for all HOUSES of 2 HOURS, what"
-            + " best() tells of 5 for 0 and 1, HOURS, ASK for HOUR 4; letters of THE PAGE, each by its code; what count()"
-            + " tells for 0 to 8.";
+            + " best() tells of 5 for 0 and 1, HOURS, ASK for HOUR 4; letters of THE PAGE, each by its code; what"
+            + " count() tells for 0 to 8.";
 
     /** The numbers as the other calls tell them, mixed without a bound and wrapped at the end. */
     private static void digest(Talk talk, String page) {
